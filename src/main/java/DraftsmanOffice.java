@@ -136,7 +136,7 @@ public final class DraftsmanOffice {
         }
         Sheet issued = sheets[sheet];
         issued.setIssued(issued.last);
-        closeAll(promisedOf(sheet));
+        closePromised(sheet);
         return stopUnfit();
     }
 
@@ -432,14 +432,12 @@ public final class DraftsmanOffice {
         if (!isReadyToIssue(sheet)) {
             return NONE;
         }
-        // It is issued on trial, and that is taken back, so that the same rules judge it.
+        // It is issued on trial, and that is taken back, so that the same rules judge it. Its promised
+        // queries can stay: what works by this sheet is stopped anyway, for no crew has the new revision.
         Sheet tried = sheets[sheet];
         int issuedBefore = tried.issued;
-        int promised = promisedOf(sheet);
         tried.setIssued(tried.last);
-        closeAll(promised);
         int stopped = Integer.bitCount(unfitRunning());
-        promiseAll(promised);
         tried.setIssued(issuedBefore);
         return stopped;
     }
@@ -647,28 +645,10 @@ public final class DraftsmanOffice {
 
     // Clouds.
 
-    private int promisedOf(int sheet) {
-        int promised = 0;
+    private void closePromised(int sheet) {
         for (int i = 0; i < queryCount; i++) {
             if (queries[i].sheet == sheet && queries[i].state == PROMISED) {
-                promised |= 1 << i;
-            }
-        }
-        return promised;
-    }
-
-    private void closeAll(int set) {
-        setState(set, CLOSED);
-    }
-
-    private void promiseAll(int set) {
-        setState(set, PROMISED);
-    }
-
-    private void setState(int set, int state) {
-        for (int i = 0; i < queryCount; i++) {
-            if (isIn(set, i)) {
-                queries[i].state = state;
+                queries[i].state = CLOSED;
             }
         }
     }

@@ -95,11 +95,14 @@ public final class CloudsTest {
         office.query(0, 1, 1, 1, 1);
         office.query(0, 1, 1, 1, 1);
         office.query(1, 1, 1, 1, 1);
+        office.query(0, 1, 1, 1, 1);
         office.answer(0, true);
         office.answer(2, true);
+        office.answer(3, true);
         check.due("promised before the check", 1, office.ofQuery(0));
         Given.issue(office, 0);
         check.due("closed by a revision begun before", 2, office.ofQuery(0));
+        check.due("another one of it too", 2, office.ofQuery(3));
         check.due("an open one stays", 0, office.ofQuery(1));
         check.due("that of another sheet stays", 1, office.ofQuery(2));
         check.noState(office, "a closed one", () -> office.answer(0, false));

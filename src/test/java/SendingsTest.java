@@ -51,6 +51,9 @@ public final class SendingsTest {
         check.due("those that are issued", 0, office.send(1, 3));
         office.revise(0);
         check.due("an issued one beside a draft", 1, office.send(1, 1));
+        DraftsmanOffice late = Given.sheets(2);
+        Given.issue(late, 1);
+        check.noState(late, "the first of the sheets not issued", () -> late.send(1, 3));
         DraftsmanOffice empty = new DraftsmanOffice();
         check.noArgument(empty, "without sheets", () -> empty.send(1, 1));
     }

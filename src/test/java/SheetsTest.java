@@ -306,6 +306,11 @@ public final class SheetsTest {
         check.due("clashes of 5, of the same trade", 0, office.ofSheet(5, 9));
         office.excuse(3, 2);
         check.due("clashes of 2, one excused", 1, office.ofSheet(2, 9));
+        DraftsmanOffice two = new DraftsmanOffice();
+        Given.addIssued(two, 0, 0, 0, 0, 0, 0);
+        Given.addIssued(two, 1, 0, 0, 0, 0, 0);
+        check.due("clashes of 1 with the first sheet", 1, two.ofSheet(1, 9));
+        check.due("clashes of the first sheet", 1, two.ofSheet(0, 9));
     }
 
     private static void status() {

@@ -218,6 +218,14 @@ public final class WhatIfTest {
         office.revise(2);
         office.check(2);
         check.due("by the calls then", byTheCalls(office), office.digest());
+        office.answer(0, true);
+        office.pack(2, 1, 3);
+        check.due("the promised query is freed", 1, office.freedBy(0));
+        office.query(1, 0, 0, 0, 0);
+        office.answer(1, false);
+        office.place(2, 5, 5, 9, 9);
+        check.due("one is freed by all", 1, office.freedByAll(2));
+        check.due("by the calls at last", byTheCalls(office), office.digest());
     }
 
     private static long byTheCalls(DraftsmanOffice office) {
